@@ -477,6 +477,30 @@ public final class PromisesTest {
     }
 
     private static void promise13Remove() {
+        Script.run("13 remove of other kinds", """
+            state 1 0 0 = 0
+            state 2 1 0 = 1
+            state 3 3 0 = 2
+            key 1
+            put 0 1 = 1
+            add 1 1 = 1
+            fold 2 1 = 1
+            remove 0 1 = argument!
+            remove 1 1 = argument!
+            remove 2 1 = argument!
+            """);
+        Script.run("13 remove from the last of 150 entries", """
+            state 1 2 0 = 0
+            """ + Script.many(150, "key $\nset 0 1 $ = 1") + Script.many(9, "set 0 -$ $ = 1") + """
+            set 0 99 99 = FULL
+            remove 0 1 = true
+            remove 0 -8 = true
+            item 0 0 = 7
+            item 0 7 = 0
+            size 0 = 8
+            clear 0 = true
+            told 1 = 149
+            """);
         Script.run("13 remove", """
             state 1 2 0 = 0
             state 2 0 0 = 1
@@ -1238,6 +1262,8 @@ public final class PromisesTest {
             move 1 1 2 = NO
             move 2 1 2 = NO
             move 2 1 1 = 1
+            item 2 0 = -5
+            item 2 1 = 1000
             item 2 2 = -6
             move 2 0 0 = NO
             move 2 2 0 = NO
@@ -1284,6 +1310,28 @@ public final class PromisesTest {
             add 0 8 = 4
             get 0 5 = argument!
             move 0 2 1 = NO
+            """);
+        Script.run("25 what is gone need not fit and is not folded", """
+            state 1 0 0 = 0
+            state 2 2 0 = 1
+            key 1
+            put 0 5 = 1
+            set 1 1 1 = 1
+            set 1 2 -2000 = 1
+            remove 1 2 = true
+            key 2
+            put 0 -2000 = 1
+            set 1 2 -2000 = 1
+            clear 0 = true
+            clear 1 = true
+            move 0 0 2 = 1
+            move 0 1 1 = 1
+            move 1 2 2 = 1
+            move 1 1 1 = 1
+            move 1 3 0 = 1
+            key 1
+            value 1 = 1
+            size 1 = 1
             """);
         Script.run("25 a state's move leaves the others", """
             state 1 1 0 = 0
