@@ -1,8 +1,13 @@
 import java.lang.reflect.InvocationTargetException;
 import java.lang.reflect.Method;
+import java.lang.reflect.Modifier;
+import java.util.HashMap;
+import java.util.Map;
 
 /** Calls a method by its name and gives the answer as a text: a number, true, false, nothing or throws.SomeException. */
 final class Calls {
+    private static final Map<String, Method> METHODS = new HashMap<>();
+
     private Calls() {
     }
 
@@ -32,8 +37,12 @@ final class Calls {
     }
 
     private static Method find(Class<?> type, String name) {
+        return METHODS.computeIfAbsent(type.getName() + "." + name, whole -> search(type, name));
+    }
+
+    private static Method search(Class<?> type, String name) {
         for (Method method : type.getDeclaredMethods()) {
-            if (method.getName().equals(name) && java.lang.reflect.Modifier.isPublic(method.getModifiers())) {
+            if (method.getName().equals(name) && Modifier.isPublic(method.getModifiers())) {
                 return method;
             }
         }

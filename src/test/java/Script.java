@@ -1,18 +1,19 @@
 import java.util.ArrayList;
-import java.util.Arrays;
 import java.util.Collections;
 import java.util.List;
 import java.util.TreeSet;
 
 /**
  * Runs of calls written as text, one call a line: "put 0 3 = 1", "key 7", "value 0 = throws.IllegalStateException".
- * What follows a # is left out. After every call that is refused or throws, the run is made again on new objects, with and
- * without that call, and all that can be asked must be the same.
+ * What follows a # is left out. After every call that is refused, answers false or throws, the run is made again on new
+ * objects, with and without that call, and all that can be asked must be the same.
  */
 final class Script {
     private static final int MOST_CALLS = 512;
     private static int wrong = 0;
+    private static int runs = 0;
     private static int calls = 0;
+    private static int refusals = 0;
 
     private final String title;
     private final List<String> names = new ArrayList<>();
@@ -31,17 +32,33 @@ final class Script {
         script.runAll();
     }
 
-    /** The line n times, with 0 .. n - 1 for $. */
+    /** The lines n times, with 0 .. n - 1 for $, 1 .. n for $+1 and 2 .. n + 1 for $+2. */
     static String many(int n, String lines) {
         StringBuilder all = new StringBuilder();
         for (int i = 0; i < n; i++) {
-            all.append(lines.replace("$+1", String.valueOf(i + 1)).replace("$", String.valueOf(i))).append('\n');
+            String plus = lines.replace("$+2", String.valueOf(i + 2)).replace("$+1", String.valueOf(i + 1));
+            all.append(plus.replace("$", String.valueOf(i))).append('\n');
         }
         return all.toString();
     }
 
+    /**
+     * 150 entries in 177 calls: the states 0 .. 7 have the kinds 0 .. 3 twice and the keys 0 .. 18, but key 18, which is at
+     * hand then, has no entry of the states 6 and 7. All have one number, which is the key.
+     */
+    static String full() {
+        StringBuilder all = new StringBuilder();
+        for (int state = 0; state < 8; state++) {
+            all.append("state ").append(state).append(' ').append(state % 4).append(" 0 = ").append(state).append('\n');
+        }
+        String key = "key $\nput 0 $ = 1\nadd 1 $ = 1\nset 2 $ $ = 1\nfold 3 $ = 1\nput 4 $ = 1\nadd 5 $ = 1\n";
+        all.append(many(18, key + "set 6 $ $ = 1\nfold 7 $ = 1"));
+        return all.append(key.replace("$", "18")).toString();
+    }
+
     static void finish() {
-        System.out.println(wrong == 0 ? calls + " answers are as due" : wrong + " answers are not as due");
+        System.out.println(runs + " runs, " + calls + " answers, " + refusals + " refusals that must change nothing: "
+                + (wrong == 0 ? "all as due" : wrong + " not as due"));
         if (wrong != 0 || calls == 0) {
             System.exit(1);
         }
@@ -105,6 +122,7 @@ final class Script {
         if (names.size() > MOST_CALLS) {
             throw new Error(title + ": " + names.size() + " calls");
         }
+        runs++;
         KeyStates x = new KeyStates();
         for (int n = 0; n < names.size(); n++) {
             calls++;
@@ -130,13 +148,15 @@ final class Script {
     private boolean isRefusal(int n) {
         String answer = due.get(n);
         boolean isCode = answer.equals("-1") || answer.equals("-3") || answer.equals("-4");
-        return answer.startsWith("throws.")
+        return answer.startsWith("throws.") || answer.equals("false")
                 || isCode && Calls.answersNumber(names.get(n)) && !names.get(n).equals("span") && !names.get(n).equals("of");
     }
 
     private void checkUnchanged(int n) {
-        List<String> without = allThatCanBeAsked(n, MOST_CALLS - n - 1);
-        List<String> with = allThatCanBeAsked(n + 1, MOST_CALLS - n - 1);
+        refusals++;
+        int callsMore = MOST_CALLS - n - 1;
+        List<String> without = Asking.all(this, n, callsMore);
+        List<String> with = Asking.all(this, n + 1, callsMore);
         for (int i = 0; i < without.size() && i < with.size(); i++) {
             if (!with.get(i).equals(without.get(i))) {
                 wrong++;
@@ -147,83 +167,27 @@ final class Script {
         }
     }
 
-    /** After the first n calls on a new object, with at most the given number of calls more. */
-    private List<String> allThatCanBeAsked(int n, int most) {
+    /** A new object after the first n calls. */
+    KeyStates after(int n) {
         KeyStates x = new KeyStates();
         for (int i = 0; i < n; i++) {
             Calls.answer(x, names.get(i), args.get(i));
         }
-        TreeSet<Long> keys = firstArguments("key");
-        TreeSet<Long> spans = firstArguments("span");
-        spans.add(0L);
-        Asker asker = new Asker(x, most);
-        askOfNow(asker);
-        for (int snapshot = -1; snapshot <= Collections.frequency(names, "snapshot"); snapshot++) {
-            askOf(asker, snapshot, keys, spans);
-        }
-        return asker.answers;
+        return x;
     }
 
-    private TreeSet<Long> firstArguments(String name) {
+    int count(String name) {
+        return Collections.frequency(names, name);
+    }
+
+    /** What stands at a place in the arguments of all calls of a method. */
+    TreeSet<Long> arguments(String name, int place) {
         TreeSet<Long> found = new TreeSet<>();
         for (int i = 0; i < names.size(); i++) {
             if (names.get(i).equals(name)) {
-                found.add(args.get(i)[0]);
+                found.add(args.get(i)[place]);
             }
         }
         return found;
-    }
-
-    private static void askOfNow(Asker asker) {
-        for (int what = 0; what <= 6; what++) {
-            asker.ask("told", what);
-        }
-        for (int state = 0; state < 8; state++) {
-            asker.ask("size", state);
-            asker.ask("keys", state);
-            for (int what = 0; what < 3; what++) {
-                asker.ask("of", state, what);
-            }
-        }
-        asker.ask("leave");
-        asker.ask("span", 0);
-    }
-
-    private static void askOf(Asker asker, int snapshot, TreeSet<Long> keys, TreeSet<Long> spans) {
-        for (int state = 0; state < 8; state++) {
-            String entries = asker.ask("entries", snapshot, state);
-            if (entries.startsWith("throws") || entries.equals("0")) {
-                continue;
-            }
-            for (long span : spans) {
-                for (long key : keys) {
-                    String got = "";
-                    for (int i = 0; i <= 10 && !got.startsWith("throws"); i++) {
-                        got = asker.ask("ask", snapshot, state, key, span, i);
-                    }
-                }
-            }
-        }
-    }
-
-    private static final class Asker {
-        final KeyStates x;
-        final List<String> answers = new ArrayList<>();
-        int left;
-
-        Asker(KeyStates x, int most) {
-            this.x = x;
-            this.left = most;
-        }
-
-        String ask(String name, long... args) {
-            if (left <= 0) {
-                return "throws nothing, for no call is left";
-            }
-            left--;
-            String got = Calls.answer(x, name, args);
-            answers.add(name + " " + Arrays.toString(args) + " answers " + got);
-            return got;
-        }
     }
 }
